@@ -32,6 +32,7 @@ public final class Promise02RunTest {
         check.answered("to the day's end", 0, NEW, x -> x.run(840, 600, 0));
         check.answered("to the day's end, short", 0, NEW, x -> x.run(1439, 1, 0));
         check.answered("from a day's begin", 0, NEW, x -> x.run(1440, 600, 0));
+        check.answered("a day's first minute alone", 0, NEW, x -> x.run(1440, 1, 0));
         check.answered("to a later day's end", 0, NEW, x -> x.run(2 * 1440 - 5, 5, 0));
         check.answered("the last start of all, long", 0, NEW, x -> x.run(20000, 160, 0));
     }

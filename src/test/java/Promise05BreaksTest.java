@@ -8,6 +8,7 @@ public final class Promise05BreaksTest {
         lost(check);
         chargers(check);
         wholeTime(check);
+        thirtyRuns(check);
         int[] none = {5, -1, Integer.MIN_VALUE, Integer.MAX_VALUE};
         for (int bus : none) {
             check.refused("bus " + bus, IndexOutOfBoundsException.class, Promise05BreaksTest::going, x -> x.breaks(bus, true));
@@ -160,5 +161,12 @@ public final class Promise05BreaksTest {
         check.same("run 1 is done", x.stateOf(1), DepotLog.DONE);
         x.breaks(2, true);
         check.same("a run that is done hinders no bus", x.busOf(0), 0);
+    }
+
+    private static void thirtyRuns(Check check) {
+        DepotLog x = FullDepot.going();
+        check.same("breaks with 30 runs", Check.thrownBy(() -> x.breaks(4, true)), "");
+        check.same("the last run's new bus", x.busOf(29), 0);
+        check.same("the run before waits again", x.stateOf(28), DepotLog.WAITS);
     }
 }

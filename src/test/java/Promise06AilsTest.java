@@ -7,6 +7,7 @@ public final class Promise06AilsTest {
         notFit(check);
         lost(check);
         done(check);
+        thirtyRuns(check);
         int[] none = {5, -1, Integer.MIN_VALUE, Integer.MAX_VALUE};
         for (int driver : none) {
             check.refused("driver " + driver, IndexOutOfBoundsException.class, Promise06AilsTest::going, x -> x.ails(driver, true));
@@ -126,5 +127,12 @@ public final class Promise06AilsTest {
         check.same("and counts", x.minutesOf(1, 0), 60);
         check.same("state", x.stateOf(0), DepotLog.DONE);
         check.same("chargers are as they were", x.plug(4, 1), 3);
+    }
+
+    private static void thirtyRuns(Check check) {
+        DepotLog x = FullDepot.going();
+        check.same("becomes ill with 30 runs", Check.thrownBy(() -> x.ails(4, true)), "");
+        check.same("the last run's new driver", x.driverOf(29), 0);
+        check.same("the run before waits again", x.stateOf(28), DepotLog.WAITS);
     }
 }

@@ -7,6 +7,8 @@ public final class Promise07PlugTest {
         loads(check);
         wrong(check);
         ordered(check);
+        check.refused("the last of 30 runs goes", IllegalStateException.class, FullDepot::going, x -> x.plug(4, 0));
+        check.answered("another bus, with 30 runs", DepotLog.NONE, FullDepot::going, x -> x.plug(0, 0));
         check.end();
     }
 
