@@ -11,7 +11,7 @@ import java.util.stream.IntStream;
  * The document said once more, in another way than the program: sets and filters, nothing kept that can be reckoned.
  * Refusals are told by their exception's name.
  */
-final class Model {
+final class Model implements Told {
     static final class Trip {
         final int start, end, need;
         String state = "WAITS";
@@ -53,7 +53,8 @@ final class Model {
         return n >= from && n <= to;
     }
 
-    String run(int start, int minutes, int charge) {
+    @Override
+    public String run(int start, int minutes, int charge) {
         if (!within(start, now + 1, 20000) || !within(minutes, 1, 600) || !within(charge, 0, 100)) {
             return ARGUMENT;
         }
@@ -71,7 +72,8 @@ final class Model {
         return lessee != null && now < leaseUntil ? lessee : null;
     }
 
-    String lead(int dispatcher, int minutes) {
+    @Override
+    public String lead(int dispatcher, int minutes) {
         if (!within(dispatcher, 0, 1)) {
             return INDEX;
         }
@@ -85,7 +87,8 @@ final class Model {
         return "" + (whoLeads() == dispatcher);
     }
 
-    String order(int dispatcher, int mark, int run, int bus, int driver) {
+    @Override
+    public String order(int dispatcher, int mark, int run, int bus, int driver) {
         if (!within(dispatcher, 0, 1) || !within(run, 0, trips.size() - 1) || !within(bus, 0, 4) || !within(driver, 0, 4)) {
             return INDEX;
         }
@@ -133,7 +136,8 @@ final class Model {
         return !illDrivers.contains(driver) && sum <= 480 && rested;
     }
 
-    String breaks(int bus, boolean isBroken) {
+    @Override
+    public String breaks(int bus, boolean isBroken) {
         if (!within(bus, 0, 4)) {
             return INDEX;
         }
@@ -158,7 +162,8 @@ final class Model {
         return "" + was;
     }
 
-    String ails(int driver, boolean isIll) {
+    @Override
+    public String ails(int driver, boolean isIll) {
         if (!within(driver, 0, 4)) {
             return INDEX;
         }
@@ -180,7 +185,8 @@ final class Model {
         return "" + was;
     }
 
-    String plug(int bus, int charger) {
+    @Override
+    public String plug(int bus, int charger) {
         if (!within(bus, 0, 4) || !within(charger, 0, 1)) {
             return INDEX;
         }
@@ -194,7 +200,8 @@ final class Model {
         return "" + leaves;
     }
 
-    String advance(int minutes) {
+    @Override
+    public String advance(int minutes) {
         if (!within(minutes, 1, 1000)) {
             return ARGUMENT;
         }
@@ -218,47 +225,58 @@ final class Model {
         return "" + now;
     }
 
-    String minute() {
+    @Override
+    public String minute() {
         return "" + now;
     }
 
-    String leader() {
+    @Override
+    public String leader() {
         return "" + (whoLeads() == null ? -1 : whoLeads());
     }
 
-    String runs() {
+    @Override
+    public String runs() {
         return "" + trips.size();
     }
 
-    String orders() {
+    @Override
+    public String orders() {
         return "" + log.size();
     }
 
-    String orderAt(int order) {
+    @Override
+    public String orderAt(int order) {
         return within(order, 0, log.size() - 1) ? "" + new ArrayList<>(log.values()).get(order) : INDEX;
     }
 
-    String stateOf(int run) {
+    @Override
+    public String stateOf(int run) {
         return within(run, 0, trips.size() - 1) ? "" + STATES.indexOf(trips.get(run).state) : INDEX;
     }
 
-    String busOf(int run) {
+    @Override
+    public String busOf(int run) {
         return within(run, 0, trips.size() - 1) ? "" + (trips.get(run).bus == null ? -1 : trips.get(run).bus) : INDEX;
     }
 
-    String driverOf(int run) {
+    @Override
+    public String driverOf(int run) {
         return within(run, 0, trips.size() - 1) ? "" + (trips.get(run).driver == null ? -1 : trips.get(run).driver) : INDEX;
     }
 
-    String charge(int bus) {
+    @Override
+    public String charge(int bus) {
         return within(bus, 0, 4) ? "" + energy[bus] : INDEX;
     }
 
-    String promised(int bus) {
+    @Override
+    public String promised(int bus) {
         return within(bus, 0, 4) ? "" + promisedOf(bus) : INDEX;
     }
 
-    String minutesOf(int driver, int day) {
+    @Override
+    public String minutesOf(int driver, int day) {
         if (!within(driver, 0, 4)) {
             return INDEX;
         }

@@ -62,23 +62,15 @@ public final class Promise02RunTest {
     }
 
     private static void full(Check check) {
-        Supplier<DepotLog> with30 = () -> with(30);
-        check.answered("the thirtieth", 29, () -> with(29), x -> x.run(1, 1, 1));
+        Supplier<DepotLog> with30 = () -> Depots.withRuns(30);
+        check.answered("the thirtieth", 29, () -> Depots.withRuns(29), x -> x.run(1, 1, 1));
         check.refused("the thirty-first", IllegalStateException.class, with30, x -> x.run(1, 1, 1));
         check.refused("the thirty-first, start wrong", ARGUMENT, with30, x -> x.run(0, 1, 1));
         check.refused("the thirty-first, minutes wrong", ARGUMENT, with30, x -> x.run(1, 0, 1));
         check.refused("the thirty-first, over the day's end", ARGUMENT, with30, x -> x.run(1439, 2, 1));
         check.refused("the thirty-first, charge wrong", ARGUMENT, with30, x -> x.run(1, 1, 101));
-        DepotLog x = with(30);
+        DepotLog x = Depots.withRuns(30);
         x.advance(10);
         check.same("lost runs keep their places", Check.thrownBy(() -> x.run(20, 1, 1)), "IllegalStateException");
-    }
-
-    private static DepotLog with(int runs) {
-        DepotLog x = new DepotLog();
-        for (int k = 0; k < runs; k++) {
-            x.run(2, 1, 1);
-        }
-        return x;
     }
 }

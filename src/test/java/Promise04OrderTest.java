@@ -20,18 +20,8 @@ public final class Promise04OrderTest {
         check.end();
     }
 
-    /** The dispatcher 0 leads for 1000 minutes; a run for each three numbers: start, minutes, charge. */
-    private static DepotLog led(int... runs) {
-        DepotLog x = new DepotLog();
-        x.lead(0, 1000);
-        for (int k = 0; k + 2 < runs.length; k += 3) {
-            x.run(runs[k], runs[k + 1], runs[k + 2]);
-        }
-        return x;
-    }
-
     private static void ordinary(Check check) {
-        DepotLog x = led(10, 60, 40, 10, 60, 30);
+        DepotLog x = Depots.led(10, 60, 40, 10, 60, 30);
         check.same("first", x.order(0, 999, 1, 2, 3), 0);
         check.same("second", x.order(0, 0, 0, 4, 1), 1);
         check.same("state", x.stateOf(1), DepotLog.ORDERED);
@@ -45,7 +35,7 @@ public final class Promise04OrderTest {
 
     private static void marks(Check check) {
         Supplier<DepotLog> ordered = () -> {
-            DepotLog x = led(10, 60, 40, 10, 60, 40, 5, 60, 40);
+            DepotLog x = Depots.led(10, 60, 40, 10, 60, 40, 5, 60, 40);
             x.breaks(4, true);
             x.ails(4, true);
             x.order(0, 3, 0, 0, 0);
@@ -72,7 +62,7 @@ public final class Promise04OrderTest {
     }
 
     private static void wrongNumbers(Check check) {
-        Supplier<DepotLog> one = () -> led(10, 60, 40);
+        Supplier<DepotLog> one = () -> Depots.led(10, 60, 40);
         int[] none = {-1, Integer.MIN_VALUE, Integer.MAX_VALUE};
         for (int n : none) {
             check.refused("dispatcher " + n, INDEX, one, x -> x.order(n, 0, 0, 0, 0));
@@ -94,7 +84,7 @@ public final class Promise04OrderTest {
         check.refused("mark before what does not lead", ARGUMENT, one, x -> x.order(1, 1000, 0, 0, 0));
         check.refused("bus before what does not lead", INDEX, one, x -> x.order(1, 0, 0, 5, 0));
         Supplier<DepotLog> marked = () -> {
-            DepotLog x = led(10, 60, 40);
+            DepotLog x = Depots.led(10, 60, 40);
             x.order(0, 4, 0, 0, 0);
             return x;
         };
@@ -111,7 +101,7 @@ public final class Promise04OrderTest {
             return x;
         };
         check.refused("nobody leads", STATE, unled, x -> x.order(0, 0, 0, 0, 0));
-        check.refused("the other one leads", STATE, () -> led(100, 10, 1), x -> x.order(1, 0, 0, 0, 0));
+        check.refused("the other one leads", STATE, () -> Depots.led(100, 10, 1), x -> x.order(1, 0, 0, 0, 0));
         Supplier<DepotLog> ended = () -> {
             DepotLog x = unled.get();
             x.lead(1, 5);
@@ -130,7 +120,7 @@ public final class Promise04OrderTest {
 
     private static void states(Check check) {
         Supplier<DepotLog> all = () -> {
-            DepotLog x = led(10, 60, 1, 10, 5, 1, 10, 5, 1, 900, 5, 1, 17, 1, 1);
+            DepotLog x = Depots.led(10, 60, 1, 10, 5, 1, 10, 5, 1, 900, 5, 1, 17, 1, 1);
             x.order(0, 0, 0, 0, 0);
             x.order(0, 1, 1, 1, 1);
             x.order(0, 2, 3, 2, 2);
@@ -146,7 +136,7 @@ public final class Promise04OrderTest {
 
     private static void busFit(Check check) {
         Supplier<DepotLog> broken = () -> {
-            DepotLog x = led(10, 60, 1);
+            DepotLog x = Depots.led(10, 60, 1);
             x.breaks(3, true);
             return x;
         };
@@ -165,7 +155,7 @@ public final class Promise04OrderTest {
     /** Bus 0 has an ORDERED run from 30 to 60; another one is ordered for it. */
     private static void meets(Check check, String what, int start, int minutes, boolean isFit) {
         Supplier<DepotLog> busy = () -> {
-            DepotLog x = led(30, 30, 1, start, minutes, 1);
+            DepotLog x = Depots.led(30, 30, 1, start, minutes, 1);
             x.order(0, 0, 0, 0, 0);
             return x;
         };
@@ -179,7 +169,7 @@ public final class Promise04OrderTest {
 
     private static void meetsWhileGoing(Check check) {
         Supplier<DepotLog> going = () -> {
-            DepotLog x = led(30, 30, 1, 59, 10, 1, 60, 10, 1);
+            DepotLog x = Depots.led(30, 30, 1, 59, 10, 1, 60, 10, 1);
             x.order(0, 0, 0, 0, 0);
             x.advance(31);
             return x;
@@ -190,7 +180,7 @@ public final class Promise04OrderTest {
 
     private static void busCharge(Check check) {
         Supplier<DepotLog> some = () -> {
-            DepotLog x = led(10, 5, 60, 100, 5, 41, 100, 5, 40, 200, 5, 1, 200, 5, 0);
+            DepotLog x = Depots.led(10, 5, 60, 100, 5, 41, 100, 5, 40, 200, 5, 1, 200, 5, 0);
             x.order(0, 0, 0, 0, 0);
             return x;
         };
@@ -214,16 +204,16 @@ public final class Promise04OrderTest {
 
     private static void driverHours(Check check) {
         Supplier<DepotLog> ill = () -> {
-            DepotLog x = led(10, 60, 1);
+            DepotLog x = Depots.led(10, 60, 1);
             x.ails(3, true);
             return x;
         };
         check.refused("an ill driver", STATE, ill, x -> x.order(0, 0, 0, 0, 3));
         check.answered("a well driver", 0, ill, x -> x.order(0, 0, 0, 0, 2));
-        check.answered("480 minutes", 0, () -> led(10, 480, 1), x -> x.order(0, 0, 0, 0, 0));
-        check.refused("481 minutes", STATE, () -> led(10, 481, 1), x -> x.order(0, 0, 0, 0, 0));
+        check.answered("480 minutes", 0, () -> Depots.led(10, 480, 1), x -> x.order(0, 0, 0, 0, 0));
+        check.refused("481 minutes", STATE, () -> Depots.led(10, 481, 1), x -> x.order(0, 0, 0, 0, 0));
         Supplier<DepotLog> worked = () -> {
-            DepotLog x = led(10, 400, 1, 500, 80, 1, 500, 81, 1, 1440, 480, 1);
+            DepotLog x = Depots.led(10, 400, 1, 500, 80, 1, 500, 81, 1, 1440, 480, 1);
             x.order(0, 0, 0, 0, 0);
             return x;
         };
@@ -254,7 +244,7 @@ public final class Promise04OrderTest {
         rest(check, "within", 85, 5, false);
         rest(check, "around", 50, 100, false);
         Supplier<DepotLog> night = () -> {
-            DepotLog x = led(1400, 40, 1, 1440, 40, 1);
+            DepotLog x = Depots.led(1400, 40, 1, 1440, 40, 1);
             x.order(0, 0, 0, 0, 0);
             return x;
         };
@@ -265,7 +255,7 @@ public final class Promise04OrderTest {
     /** Driver 0 has an ORDERED run from 80 to 100; another one is ordered for the driver. */
     private static void rest(Check check, String what, int start, int minutes, boolean isFit) {
         Supplier<DepotLog> busy = () -> {
-            DepotLog x = led(80, 20, 1, start, minutes, 1);
+            DepotLog x = Depots.led(80, 20, 1, start, minutes, 1);
             x.order(0, 0, 0, 0, 0);
             return x;
         };
@@ -281,7 +271,7 @@ public final class Promise04OrderTest {
         for (int now = 80; now <= 105; now += 25) {
             int minutes = now;
             Supplier<DepotLog> later = () -> {
-                DepotLog x = led(80, 20, 1, 129, 10, 1, 130, 10, 1);
+                DepotLog x = Depots.led(80, 20, 1, 129, 10, 1, 130, 10, 1);
                 x.order(0, 0, 0, 0, 0);
                 x.advance(minutes);
                 return x;
@@ -292,7 +282,7 @@ public final class Promise04OrderTest {
     }
 
     private static void manyOrders(Check check) {
-        DepotLog x = led(900, 60, 100);
+        DepotLog x = Depots.led(900, 60, 100);
         for (int k = 0; k < 150; k++) {
             check.same("order " + k, x.order(0, 3 * k, 0, 0, k % 2), k);
             x.breaks(0, true);

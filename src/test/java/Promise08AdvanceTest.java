@@ -132,23 +132,15 @@ public final class Promise08AdvanceTest {
             check.refused("minutes " + minutes, IllegalArgumentException.class, Promise08AdvanceTest::busy, x -> x.advance(minutes));
         }
         check.answered("1000 minutes", 1000, DepotLog::new, x -> x.advance(1000));
-        Supplier<DepotLog> late = () -> at(29500);
+        Supplier<DepotLog> late = () -> Depots.at(29500);
         check.answered("to 30000", 30000, late, x -> x.advance(500));
         check.refused("above 30000", IllegalStateException.class, late, x -> x.advance(501));
-        DepotLog last = at(30000);
+        DepotLog last = Depots.at(30000);
         check.same("at the end", Check.thrownBy(() -> last.advance(1)), "IllegalStateException");
         check.same("at the end, out of range", Check.thrownBy(() -> last.advance(0)), "IllegalArgumentException");
         check.same("at the end, too many", Check.thrownBy(() -> last.advance(1001)), "IllegalArgumentException");
         check.same("the end stands", last.minute(), 30000);
         check.same("a lease at the end", last.lead(1, 1000), true);
         check.same("no run any more", Check.thrownBy(() -> last.run(20000, 1, 1)), "IllegalArgumentException");
-    }
-
-    private static DepotLog at(int minute) {
-        DepotLog x = new DepotLog();
-        while (x.minute() < minute) {
-            x.advance(Math.min(1000, minute - x.minute()));
-        }
-        return x;
     }
 }
