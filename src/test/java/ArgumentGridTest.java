@@ -4,7 +4,7 @@ import java.util.function.Consumer;
 import java.util.function.Function;
 
 /**
- * Every call with every choice of its arguments' edges, in several states, beside the model: the same answer or the
+ * Every call with many choices of edge arguments, in several states, beside the model: the same answer or the
  * same exception, which is so the one that stands first; and what a refused call leaves is as if it had not been.
  */
 public final class ArgumentGridTest {
