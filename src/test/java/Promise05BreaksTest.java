@@ -4,6 +4,7 @@ public final class Promise05BreaksTest {
         answers(check);
         ordersWaitAgain(check);
         lowestFitBus(check);
+        fromEachToEach(check);
         notFit(check);
         lost(check);
         chargers(check);
@@ -80,6 +81,27 @@ public final class Promise05BreaksTest {
         x.breaks(2, true);
         check.same("a run done keeps its bus", x.busOf(0), 2);
         check.same("no charge is taken for it", x.charge(3), 100);
+    }
+
+    /** All buses below the one that is due are broken, those above it are fit too. */
+    private static void fromEachToEach(Check check) {
+        for (int from = 0; from < 5; from++) {
+            for (int due = 0; due < 5; due++) {
+                DepotLog x = Depots.led(10, 60, 40);
+                x.order(0, 0, 0, from, 0);
+                x.advance(10);
+                for (int bus = 0; bus < due; bus++) {
+                    if (bus != from) {
+                        x.breaks(bus, true);
+                    }
+                }
+                x.breaks(from, true);
+                if (due != from) {
+                    check.same("from " + from + " to " + due, x.busOf(0), due);
+                    check.same("from " + from + " to " + due + ", its charge", x.charge(due), 60);
+                }
+            }
+        }
     }
 
     private static void notFit(Check check) {

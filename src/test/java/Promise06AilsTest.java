@@ -4,6 +4,7 @@ public final class Promise06AilsTest {
         answers(check);
         ordersWaitAgain(check);
         lowestFitDriver(check);
+        fromEachToEach(check);
         notFit(check);
         lost(check);
         done(check);
@@ -73,6 +74,27 @@ public final class Promise06AilsTest {
         x.ails(0, true);
         check.same("back to the first", x.driverOf(0), 1);
         check.same("the minutes count once", x.minutesOf(1, 0), 60);
+    }
+
+    /** All drivers below the one that is due are ill, those above are fit too. */
+    private static void fromEachToEach(Check check) {
+        for (int from = 0; from < 5; from++) {
+            for (int due = 0; due < 5; due++) {
+                DepotLog x = Depots.led(10, 60, 40);
+                x.order(0, 0, 0, 0, from);
+                x.advance(10);
+                for (int driver = 0; driver < due; driver++) {
+                    if (driver != from) {
+                        x.ails(driver, true);
+                    }
+                }
+                x.ails(from, true);
+                if (due != from) {
+                    check.same("from " + from + " to " + due, x.driverOf(0), due);
+                    check.same("from " + from + " to " + due + ", the minutes", x.minutesOf(due, 0), 60);
+                }
+            }
+        }
     }
 
     private static void notFit(Check check) {
